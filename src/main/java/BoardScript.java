@@ -302,7 +302,8 @@ public final class BoardScript {
 
     /**
      * An EXPRESSION's code: its parts in the order in which they are reckoned, operands ahead of what
-     * joins them, so that reckoning needs a stack and no recursion. One int a part.
+     * joins them, so that reckoning needs a stack and no recursion. A part is one int: what to do in
+     * its lowest bits (a character of these, or what joins two), above them a number for it.
      */
     private static final class Code {
         static final char NUMBER = 'n';
@@ -312,20 +313,8 @@ public final class BoardScript {
         static final char COUNT = '#';
         static final char NEGATE = '~';
 
-        private static final int SHIFT = 7;
-        private static final int MASK = 127;
-
-        static int part(char operation, int operand) {
-            return (operand << SHIFT) | operation;
-        }
-
-        static char operationOf(int part) {
-            return (char) (part & MASK);
-        }
-
-        static int operandOf(int part) {
-            return part >> SHIFT;
-        }
+        static final int SHIFT = 7;
+        static final int MASK = 127;
     }
 
     /**
@@ -519,12 +508,12 @@ public final class BoardScript {
         }
 
         private int fieldDigit() {
-            char digit = peek();
-            if (digit < '0' || digit >= '0' + Board.FIELDS) {
+            int digit = here < length ? text[here] - '0' : NONE;
+            if (digit < 0 || digit >= Board.FIELDS) {
                 return NONE;
             }
             here++;
-            return digit - '0';
+            return digit;
         }
 
         /** By rank: 0 an EXPRESSION, 1 a SUM, 2 a PRODUCT, and behind it an ATOM. */
@@ -570,37 +559,32 @@ public final class BoardScript {
         private boolean atom(int depth) {
             char first = peek();
             if (isDigit(first)) {
-                number();
-                return true;
+                return emit(Code.NUMBER, number());
             }
             if (isVariable(first)) {
                 here++;
-                emit(Code.VARIABLE, first - 'a');
-                return true;
+                return emit(Code.VARIABLE, first - 'a');
             }
             if (first == Code.COUNT) {
                 here++;
-                emit(Code.COUNT, 0);
-                return true;
+                return emit(Code.COUNT, 0);
             }
-            return depth < MAX_ATOMS && holding(first, depth + 1);
-        }
-
-        /** An ATOM that others may lie in; depth is theirs. */
-        private boolean holding(char first, int depth) {
+            if (depth >= MAX_ATOMS) {
+                return false;
+            }
             switch (first) {
                 case '(':
                     here++;
-                    return ranked(0, depth) && take(')');
+                    return ranked(0, depth + 1) && take(')');
                 case '-':
                     here++;
-                    return atom(depth) && emit(Code.NEGATE, 0);
+                    return atom(depth + 1) && emit(Code.NEGATE, 0);
                 case Code.PLACE:
                     here++;
-                    return atom(depth) && emit(Code.PLACE, 0);
+                    return atom(depth + 1) && emit(Code.PLACE, 0);
                 case Code.FIELD:
                     here++;
-                    if (!atom(depth) || !take(':')) {
+                    if (!atom(depth + 1) || !take(':')) {
                         return false;
                     }
                     int name = fieldDigit();
@@ -610,20 +594,25 @@ public final class BoardScript {
             }
         }
 
-        private void number() {
+        /** A fifth digit is left where it is, and nothing that may follow an ATOM is one. */
+        private int number() {
             int value = 0;
-            for (int n = 0; n < MAX_DIGITS && here < length && isDigit(text[here]); n++) {
-                value = value * 10 + (text[here] - '0');
+            for (int n = 0; n < MAX_DIGITS && here < length; n++) {
+                int digit = text[here] - '0';
+                if (digit < 0 || digit > 9) {
+                    break;
+                }
+                value = value * 10 + digit;
                 here++;
             }
-            emit(Code.NUMBER, value);
+            return value;
         }
 
         private boolean emit(char operation, int operand) {
             if (size >= code.length) {
                 return false;
             }
-            code[size] = Code.part(operation, operand);
+            code[size] = (operand << Code.SHIFT) | operation;
             size++;
             return true;
         }
@@ -666,7 +655,7 @@ public final class BoardScript {
                 return 0;
             }
             for (int i = 0; i < code.length && fault == NO_ERROR; i++) {
-                reckon(Code.operationOf(code[i]), Code.operandOf(code[i]));
+                reckon((char) (code[i] & Code.MASK), code[i] >> Code.SHIFT);
             }
             return fault == NO_ERROR ? pop() : 0;
         }
@@ -686,10 +675,10 @@ public final class BoardScript {
                     push(-pop());
                     break;
                 case Code.FIELD:
-                    pushFrom(board.fields, board.slotOf(pop(), operand));
+                    push(cell(board.fields, board.slotOf(pop(), operand)));
                     break;
                 case Code.PLACE:
-                    pushFrom(board.places, board.placeOf(pop()));
+                    push(cell(board.places, board.placeOf(pop())));
                     break;
                 default:
                     long right = pop();
@@ -720,12 +709,12 @@ public final class BoardScript {
             return joint == '/' ? left / right : left % right;
         }
 
-        private void pushFrom(long[] row, int index) {
+        private long cell(long[] row, int index) {
             if (index < 0 || index >= row.length) {
                 fault = NOT_THERE;
-            } else {
-                push(row[index]);
+                return 0;
             }
+            return row[index];
         }
 
         private void push(long value) {

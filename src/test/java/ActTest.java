@@ -69,6 +69,19 @@ public final class ActTest {
         BoardScript y = board("~{[@0:0=8;A;]}{!@0:0;}:A{@0:0=9;~{C;}{!@0:0;}}:C{[@0:0=7;^1;]}");
         y.run(99);
         check.outputs("each to its own beginning", y, 9, 1);
+        String[] holders = {"?1{%}", "?0{}{%}", "*a<2{a=a+1;%}", "~{%}{}", "~{}{%}"};
+        for (String holder : holders) {
+            BoardScript held = board("[@0:0=2;A;]:A{@0:0=3;" + holder.replace("%", "@0:0=4;B;")
+                + "}:B{" + holder.replace("%", "@0:0=6;^@0:0;") + "}");
+            held.run(99);
+            check.due(holder + " in functions", held.at(0, 0), 1);
+            BoardScript outer = board(holder.replace("%", "[@0:0=5;^1;]") + ":A{}");
+            outer.run(99);
+            check.due(holder + " round an act", outer.at(0, 0), 1);
+            BoardScript both = board("[@0:0=7;" + holder.replace("%", "B;") + "]:B{[@0:0=8;][@0:0=9;^1;]}");
+            both.run(99);
+            check.due(holder + " within an act, round another", both.at(0, 0), 1);
+        }
     }
 
     private static void failing() {

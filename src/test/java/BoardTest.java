@@ -22,6 +22,12 @@ public final class BoardTest {
             check.due("at(11, " + name + ")", x.at(11, name), 0);
         }
         check.outOfBounds("at(12, 0)", () -> x.at(12, 0));
+        BoardScript y = Check.ran("[+1;@0:1=1;@0:2=2;@0:3=3;@0:4=4;@0:5=5;^1;]");
+        check.due("object(7) where an act took one away", y.object(7), 0);
+        check.due("its field 0", y.at(0, 0), 7);
+        for (int name = 1; name < 6; name++) {
+            check.due("its field " + name, y.at(0, name), 0);
+        }
     }
 
     private static void fields() {

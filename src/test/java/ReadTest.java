@@ -65,6 +65,11 @@ public final class ReadTest {
         check.due("unit 400, a wrong one", x.unit(7), false);
         check.due("400 line feeds", x.read(), 0);
         check.due("the text is gone", x.unit('\n'), true);
+        BoardScript y = Check.script("a=1234;b=1;");
+        check.due("nothing of an old text comes back", Check.read(y, "a=1234"), -7);
+        check.due("nothing of an old text comes back", Check.read(y, "a=12"), -5);
+        check.due("nothing of an old text comes back", Check.read(y, "a"), -2);
+        check.due("nothing of an old text comes back", Check.read(y, ""), 0);
     }
 
     private static void goodTexts() {

@@ -59,7 +59,10 @@ public final class RunTest {
         check.due("1+1=4-2", Check.value("1+1=4-2"), 1);
         check.due("(1<2)+(3=3)", Check.value("(1<2)+(3=3)"), 2);
         check.due("1+(2*(3+(4<5)))", Check.value("1+(2*(3+(4<5)))"), 9);
-        check.due("1=1+2*(1=1+2*(1=1+2*(1=1+2*3)))", Check.value("1=1+2*(1=1+2*(1=1+2*(1=1+2*3)))"), 1);
+        allWaiting("1=1+2*(1=1+2*(1=1+2*(1=1+2*3)))", 1);
+        allWaiting("1=1+2*(5=5+2*(3=3+4*(9=1+8*1)))", 0);
+        allWaiting("7=5+2*(5=4+1*(7=3+4*(9=1+8*1)))", 1);
+        allWaiting("7=5+2*(5=4+1*(7=3+4*(9=1+8*2)))", 0);
         check.due("1<2+3*(1<2+3*(1<2+3*(1<2+3*4)))", Check.value("1<2+3*(1<2+3*(1<2+3*(1<2+3*4)))"), 1);
         check.due("a long sum", Check.value("1+".repeat(197) + "1"), 198);
         check.due("a long product", Check.value("-1*".repeat(131) + "1"), -1);
@@ -71,6 +74,11 @@ public final class RunTest {
         x.list(3);
         x.run(99);
         check.outputs("atoms of the board", x, 2, 11, 22, 5, 0, -11, 22);
+    }
+
+    /** As many operands as can be wait for what is joined to them. */
+    private static void allWaiting(String expression, int want) {
+        check.due(expression, Check.value(expression), want);
     }
 
     private static void wrapping() {
