@@ -209,7 +209,7 @@ public final class BoardScript {
             }
             int first = objects * FIELDS;
             fields[first] = kind;
-            // An OBJECT that an ACT took away may have left its FIELDS here.
+            // An OBJECT from before clear() may have left its FIELDS here.
             for (int name = 1; name < FIELDS; name++) {
                 fields[first + name] = 0;
             }

@@ -6,14 +6,28 @@ final class Check {
 
     private int right;
     private int wrong;
+    private String about = "";
 
-    void due(String what, long got, long want) {
-        if (got == want) {
+    /** What the answers from here on are about; it is told with each wrong one. */
+    void about(String newAbout) {
+        about = newAbout.isEmpty() ? "" : "[" + newAbout + "] ";
+    }
+
+    int answers() {
+        return right + wrong;
+    }
+
+    private void count(boolean fits, String complaint) {
+        if (fits) {
             right++;
         } else {
             wrong++;
-            System.out.println(what + " answered " + got + ", due is " + want);
+            System.out.println(about + complaint);
         }
+    }
+
+    void due(String what, long got, long want) {
+        count(got == want, what + " answered " + got + ", due is " + want);
     }
 
     void due(String what, boolean got, boolean want) {
@@ -35,12 +49,24 @@ final class Check {
         } catch (RuntimeException e) {
             got = e.getClass();
         }
-        if (got == due) {
-            right++;
-        } else {
-            wrong++;
-            System.out.println(what + " threw " + got + ", due is " + due);
-        }
+        count(got == due, what + " threw " + got + ", due is " + due);
+    }
+
+    /** What read() answers to a text. */
+    void reads(String text, int want) {
+        due("read of " + text.replace("\n", "\\n"), read(new BoardScript(), text), want);
+    }
+
+    /** That a text is no script by the character at this place. */
+    void bad(String text, int place) {
+        reads(text, -1 - place);
+    }
+
+    /** That a text in one line ends with this ERROR on an empty board. */
+    void fails(String text, int kind, int place, int value) {
+        BoardScript x = script(text);
+        due("run of " + text, x.run(300), 1);
+        error(text, x, kind, place, value, 1);
     }
 
     /** Types a text in and reads it, without a look at the answers. */

@@ -18,11 +18,11 @@ public final class ReadTest {
     }
 
     private static void reads(String text, int want) {
-        check.due("read of " + text.replace("\n", "\\n"), Check.read(new BoardScript(), text), want);
+        check.reads(text, want);
     }
 
     private static void bad(String text, int place) {
-        reads(text, -1 - place);
+        check.bad(text, place);
     }
 
     private static void newObject() {

@@ -147,9 +147,7 @@ public final class RunTest {
     }
 
     private static void failsWith(String text, int kind, int place, int value) {
-        BoardScript x = Check.script(text);
-        check.due("run of " + text, x.run(300), 1);
-        check.error(text, x, kind, place, value, 1);
+        check.fails(text, kind, place, value);
     }
 
     private static void errorsByKind() {
