@@ -531,10 +531,9 @@ public final class BoardScript {
                     return true;
                 }
                 here++;
-                if (!ranked(rank + 1, depth)) {
+                if (!ranked(rank + 1, depth) || !emit(joint, 0)) {
                     return false;
                 }
-                emit(joint, 0);
             }
             return true;
         }

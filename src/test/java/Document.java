@@ -6,7 +6,7 @@ import java.util.Map;
 
 /**
  * The document's sentences: an edge's test names the one it is for, and at the end it can be seen
- * which words of the Terms and the promises no test has named.
+ * which of its words no test has named.
  */
 final class Document {
     private static final Path PLACE = Path.of("..", "shared", "DOC.md");
@@ -40,17 +40,14 @@ final class Document {
         return from >= 0;
     }
 
-    /** The words of the Terms and the promises that are not named, a face's own line left out. */
+    /** The words that are not named, headings left out. */
     String unnamed() {
         StringBuilder all = new StringBuilder();
         sections.forEach((title, text) -> {
-            if (title.equals("Terms") || title.startsWith("Promise ")) {
-                boolean[] here = named.get(title);
-                int body = title.equals("Terms") ? 0 : text.indexOf("`: ") + 1;
-                for (int i = body; i < text.length(); i++) {
-                    if (Character.isLetterOrDigit(text.charAt(i)) && !here[i]) {
-                        all.append(text.charAt(i));
-                    }
+            boolean[] here = named.get(title);
+            for (int i = 0; i < text.length(); i++) {
+                if (Character.isLetterOrDigit(text.charAt(i)) && !here[i]) {
+                    all.append(text.charAt(i));
                 }
             }
         });

@@ -9,6 +9,7 @@ public final class EdgeTest {
         Check check = new Check();
         Document document = Document.isThere() ? new Document() : null;
         Edges[] parts = {
+            new FaceEdges(check, document),
             new ExpressionEdges(check, document),
             new StatementEdges(check, document),
             new ErrorEdges(check, document),

@@ -34,6 +34,13 @@ abstract class Edges {
         check.about("");
     }
 
+    /** Words of the document that promise nothing, so that there is nothing to test. */
+    final void free(String words) {
+        check.about(section + ": " + words);
+        check.due("stands in the document", document == null || document.name(section, words), true);
+        check.about("");
+    }
+
     /** An object with one OBJECT on it, its FIELDS 1 and 2 the least and the greatest long. */
     static BoardScript wideBoard(String text) {
         BoardScript x = Check.script(text);

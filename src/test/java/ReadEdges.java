@@ -23,8 +23,6 @@ final class ReadEdges extends Edges {
         sentence("an ATOM too deep at its first character:", this::deepAtoms);
         sentence("then the script stays.", this::theScriptStays);
         sentence("(Of a good one there was no RUN yet.)", this::noRunYet);
-        section("What it is");
-        sentence("An object is used for at most 512 calls after it has been made;", this::manyCalls);
     }
 
     private void newObject() {
@@ -244,17 +242,4 @@ final class ReadEdges extends Edges {
     }
 
     /** The dearest calls, as many as there may be, on one object. */
-    private void manyCalls() {
-        BoardScript reads = new BoardScript();
-        for (int n = 0; n < 512; n++) {
-            check.due("read() number " + n, reads.read(), 0);
-        }
-        BoardScript runs = new BoardScript();
-        String text = "*1{[A;]}:A{[B;]}:B{~{a=a+1;}{b=a;}}";
-        check.due("read", Check.read(runs, text), 10);
-        for (int n = text.length() + 1; n < 511; n++) {
-            check.due("run as call " + n, runs.run(300), 2);
-        }
-        check.due("steps() as the last call", runs.steps(), 300);
-    }
 }
